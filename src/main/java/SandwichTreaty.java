@@ -106,7 +106,7 @@ public final class SandwichTreaty {
         lyingCount = 0;
         orders = new Orders(told);
         contest = new Contest(told, trial);
-        tastings = new Tastings(told, trial);
+        tastings = new Tastings(trial);
     }
 
     // ---- the table
@@ -1580,7 +1580,6 @@ public final class SandwichTreaty {
         /** The damps 0 .. 30 are 31 bits. */
         private static final int ALL_DAMPS = 0x7fffffff;
 
-        private final Told told;
         private final Pile trial;
         private final int[] days = new int[TASTED_LIMIT];
         private final int[] layers = new int[TASTED_LIMIT];
@@ -1593,8 +1592,7 @@ public final class SandwichTreaty {
         int count;
         int time;
 
-        Tastings(Told told, Pile trial) {
-            this.told = told;
+        Tastings(Pile trial) {
             this.trial = trial;
         }
 
