@@ -1,3 +1,5 @@
+import java.util.List;
+
 /** What all tests share: telling a table as a text, and counting the answers that are not as due. */
 final class Check {
     private static int wrong = 0;
@@ -72,5 +74,39 @@ final class Check {
         }
         due(what + ", at behind the last", -1, x.at(want.length));
         due(what + ", at(-1)", -1, x.at(-1));
+    }
+
+    static void dueTable(String text, int layers) {
+        SandwichTreaty x = new SandwichTreaty();
+        due("table of " + text, layers, tell(x, text));
+        due("fault of " + text, 0, x.fault(0));
+        due("no place in " + text, -1, x.fault(1));
+        due("the tape is empty behind " + text, 0, x.about(11));
+    }
+
+    static void dueFault(String text, int kind, int place) {
+        SandwichTreaty x = new SandwichTreaty();
+        due("table of " + text, -1, tell(x, text));
+        due("fault of " + text, kind, x.fault(0));
+        due("its place in " + text, place, x.fault(1));
+        due("the tape is empty behind " + text, 0, x.about(11));
+    }
+
+    /** Both show the same, whatever is asked; both are changed by that. */
+    static void dueLike(String what, SandwichTreaty x, SandwichTreaty y) {
+        List<String> got = Look.at(x);
+        List<String> want = Look.at(y);
+        looked += want.size();
+        if (got.equals(want)) {
+            return;
+        }
+        wrong++;
+        for (int i = 0; i < want.size() && i < got.size(); i++) {
+            if (!got.get(i).equals(want.get(i))) {
+                System.out.println(what + ": " + got.get(i) + ", due is " + want.get(i));
+                return;
+            }
+        }
+        System.out.println(what + ": " + got.size() + " lines, due are " + want.size());
     }
 }

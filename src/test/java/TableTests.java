@@ -145,143 +145,129 @@ public final class TableTests {
         Check.due("units untold again", 0, y.about(12));
     }
 
-    private static void good(String text, int layers) {
-        SandwichTreaty x = new SandwichTreaty();
-        Check.due("table of " + text, layers, Check.tell(x, text));
-        Check.due("fault of " + text, 0, x.fault(0));
-    }
-
-    private static void fault(String text, int kind, int place) {
-        SandwichTreaty x = new SandwichTreaty();
-        Check.due("table of " + text, -1, Check.tell(x, text));
-        Check.due("fault of " + text, kind, x.fault(0));
-        Check.due("its place in " + text, place, x.fault(1));
-        Check.due("the tape is empty behind " + text, 0, x.about(11));
-    }
-
     private static void limits() {
         String powers = "power a;power b;power c;power d;";
-        good(powers, 0);
-        fault(powers + "power e;", 2, 32);
-        fault(powers + "power a;", 2, 32);
+        Check.dueTable(powers, 0);
+        Check.dueFault(powers + "power e;", 2, 32);
+        Check.dueFault(powers + "power a;", 2, 32);
         StringBuilder layers = new StringBuilder("power a;");
         for (char c = 'a'; c < 'i'; c++) {
             layers.append("layer ").append(c).append(" of a thick 20 wet 20;");
         }
-        good(layers.toString(), 8);
-        fault(layers + "layer i of a thick 1;", 2, layers.length());
-        good("power a;layer l of a thick 1 wet 0;damps 0;pick 1;sun 0;draw 0;", 1);
-        good("power a;layer l of a thick 20 wet 20;damps 30;pick 8;sun 100;draw 999;", 1);
-        good("power a;layer l of a thick 0020 wet 0000;damps 0030;pick 08;sun 0100;draw 0999;", 1);
-        fault("power a;layer l of a thick 0;", 4, 27);
-        fault("power a;layer l of a thick 21;", 4, 27);
-        fault("power a;layer l of a thick 9999;", 4, 27);
-        fault("power a;layer l of a thick 1 wet 21;", 4, 33);
-        fault("damps 31;", 4, 6);
-        fault("pick 0;", 4, 5);
-        fault("pick 9;", 4, 5);
-        fault("sun 101;", 4, 4);
-        fault("draw 1000;", 4, 5);
+        Check.dueTable(layers.toString(), 8);
+        Check.dueFault(layers + "layer i of a thick 1;", 2, layers.length());
+        Check.dueTable("power a;layer l of a thick 1 wet 0;damps 0;pick 1;sun 0;draw 0;", 1);
+        Check.dueTable("power a;layer l of a thick 20 wet 20;damps 30;pick 8;sun 100;draw 999;", 1);
+        Check.dueTable("power a;layer l of a thick 0020 wet 0000;damps 0030;pick 08;sun 0100;draw 0999;", 1);
+        Check.dueFault("power a;layer l of a thick 0;", 4, 27);
+        Check.dueFault("power a;layer l of a thick 21;", 4, 27);
+        Check.dueFault("power a;layer l of a thick 9999;", 4, 27);
+        Check.dueFault("power a;layer l of a thick 1 wet 21;", 4, 33);
+        Check.dueFault("damps 31;", 4, 6);
+        Check.dueFault("pick 0;", 4, 5);
+        Check.dueFault("pick 9;", 4, 5);
+        Check.dueFault("sun 101;", 4, 4);
+        Check.dueFault("draw 1000;", 4, 5);
         for (String line : new String[] {"slips 1;", "damps 1;", "pick 1;", "sun 1;", "draw 1;"}) {
-            good(line, 0);
-            fault(line + line, 2, line.length());
+            Check.dueTable(line, 0);
+            Check.dueFault(line + line, 2, line.length());
         }
-        good("power pow;layer pow of pow thick 1;", 1);
-        fault("power a;power b;power a;", 3, 22);
-        fault("power a;layer l of a thick 1;layer m of a thick 1;layer l of a thick 1;", 3, 56);
-        fault("layer l of a thick 1;power a;", 5, 11);
-        fault("power b;layer l of l thick 1;", 5, 19);
+        Check.dueTable("power pow;layer pow of pow thick 1;", 1);
+        Check.dueFault("power a;power b;power a;", 3, 22);
+        Check.dueFault("power a;layer l of a thick 1;layer m of a thick 1;layer l of a thick 1;", 3, 56);
+        Check.dueFault("layer l of a thick 1;power a;", 5, 11);
+        Check.dueFault("power b;layer l of l thick 1;", 5, 19);
     }
 
     private static void tokens() {
-        good("", 0);
-        good(" \n \n", 0);
-        good("power abcdefgh ;", 0);
-        fault("power abcdefghi;", 1, 6);
-        good("power\na\n;layer\nl\nof\na\nthick\n1\n;", 1);
-        good("power a;layer b of a thick 1 wet 1;slips(thick)<(1)and(not 1);", 1);
-        good("power a;layer b of a thick1 wet2;", 1);
-        good("slips 9999;", 0);
-        fault("slips 10000;", 1, 6);
-        fault("slips 00001;", 1, 6);
-        fault("slips 1or 2;", 1, 6);
-        fault("power a;layer l of a thick 1wet 2;", 1, 27);
-        fault("power a\t;", 1, 7);
-        fault("power A;", 1, 6);
-        fault("power a,", 1, 7);
-        fault("power " + (char) 228 + ";", 1, 6);
-        fault("power a" + (char) 0 + ";", 1, 7);
-        fault("power a" + (char) 13 + ";", 1, 7);
-        fault("slips 1<=2;", 2, 8);
-        fault("slips 1 & 2;", 1, 8);
-        fault("powera;", 2, 0);
-        fault("poweraaaa;", 1, 0);
-        fault("power a1;", 2, 7);
+        Check.dueTable("", 0);
+        Check.dueTable(" \n \n", 0);
+        Check.dueTable("power abcdefgh ;", 0);
+        Check.dueFault("power abcdefghi;", 1, 6);
+        Check.dueTable("power\na\n;layer\nl\nof\na\nthick\n1\n;", 1);
+        Check.dueTable("power a;layer b of a thick 1 wet 1;slips(thick)<(1)and(not 1);", 1);
+        Check.dueTable("power a;layer b of a thick1 wet2;", 1);
+        Check.dueTable("slips 9999;", 0);
+        Check.dueFault("slips 10000;", 1, 6);
+        Check.dueFault("slips 00001;", 1, 6);
+        Check.dueFault("slips 1or 2;", 1, 6);
+        Check.dueFault("power a;layer l of a thick 1wet 2;", 1, 27);
+        Check.dueFault("power a\t;", 1, 7);
+        Check.dueFault("power A;", 1, 6);
+        Check.dueFault("power a,", 1, 7);
+        Check.dueFault("power " + (char) 228 + ";", 1, 6);
+        Check.dueFault("power a" + (char) 0 + ";", 1, 7);
+        Check.dueFault("power a" + (char) 13 + ";", 1, 7);
+        Check.dueFault("slips 1<=2;", 2, 8);
+        Check.dueFault("slips 1 & 2;", 1, 8);
+        Check.dueFault("powera;", 2, 0);
+        Check.dueFault("poweraaaa;", 1, 0);
+        Check.dueFault("power a1;", 2, 7);
     }
 
     private static void faults() {
-        fault(";", 2, 0);
-        fault("power", 2, 5);
-        fault("power ", 2, 6);
-        fault("power a", 2, 7);
-        fault("power a \n ", 2, 10);
-        fault("power ;", 2, 6);
-        fault("power 1;", 2, 6);
-        fault("power a b;", 2, 8);
-        fault("power a;;", 2, 8);
+        Check.dueFault(";", 2, 0);
+        Check.dueFault("power", 2, 5);
+        Check.dueFault("power ", 2, 6);
+        Check.dueFault("power a", 2, 7);
+        Check.dueFault("power a \n ", 2, 10);
+        Check.dueFault("power ;", 2, 6);
+        Check.dueFault("power 1;", 2, 6);
+        Check.dueFault("power a b;", 2, 8);
+        Check.dueFault("power a;;", 2, 8);
         for (String word : new String[] {"power", "layer", "of", "thick", "wet", "slips", "damps", "pick", "sun",
             "draw", "or", "and", "not", "above", "below", "damp", "foes", "day"}) {
-            fault("power " + word + ";", 2, 6);
-            fault("power a;layer " + word + " of a thick 1;", 2, 14);
-            fault("power a;layer b of " + word + " thick 1;", 2, 19);
+            Check.dueFault("power " + word + ";", 2, 6);
+            Check.dueFault("power a;layer " + word + " of a thick 1;", 2, 14);
+            Check.dueFault("power a;layer b of " + word + " thick 1;", 2, 19);
         }
         for (String word : new String[] {"e", "both", "one", "sum", "term", "unit", "line", "table", "name", "n"}) {
-            good("power " + word + ";", 0);
+            Check.dueTable("power " + word + ";", 0);
         }
         for (String word : new String[] {"of", "thick", "wet", "or", "and", "not", "above", "below", "damp", "foes",
             "day", "a", "1", "(", "<"}) {
-            fault("power a;" + word, 2, 8);
+            Check.dueFault("power a;" + word, 2, 8);
         }
-        fault("power a;layer of a thick 1;", 2, 14);
-        fault("power a;layer b a thick 1;", 2, 16);
-        fault("power a;layer b of a 1;", 2, 21);
-        fault("power a;layer b of a thick;", 2, 26);
-        fault("power a;layer b of a thick b;", 2, 27);
-        fault("power a;layer b of a thick 1 wet;", 2, 32);
-        fault("power a;layer b of a thick 1 wet wet;", 2, 33);
-        fault("power a;layer b of a thick 1 2;", 2, 29);
-        fault("power a;layer b of a wet 1 thick 1;", 2, 21);
-        fault("power a;layer b of a thick 1 wet 1 wet 1;", 2, 35);
-        fault("damps;", 2, 5);
-        fault("damps x;", 2, 6);
-        fault("damps 1 1;", 2, 8);
-        fault("damps - 1;", 2, 6);
-        fault("damp 1;", 2, 0);
-        fault("slips;", 2, 5);
-        fault("slips", 2, 5);
-        fault("slips x;", 2, 6);
-        fault("slips 1 +;", 2, 9);
-        fault("slips + 1;", 2, 6);
-        fault("slips 1 < 2 < 3;", 2, 12);
-        fault("slips 1 = not 2;", 2, 10);
-        fault("slips 1 + not 2;", 2, 10);
-        fault("slips 1 * not 2;", 2, 10);
-        fault("slips 1 not 2;", 2, 8);
-        fault("slips (1;", 2, 8);
-        fault("slips 1);", 2, 7);
-        fault("slips ();", 2, 7);
-        fault("slips 1 and;", 2, 11);
-        fault("slips or 1;", 2, 6);
-        fault("slips wet thick;", 2, 10);
-        fault("slips pick;", 2, 6);
-        good("slips (1 < 2) < 3;", 0);
-        good("slips (1 < 2) + (not 3) * (1 or 2 and 3);", 0);
-        good("slips not 1 < 2 and not not 3 or not (4 - 5 % 6 / 7);", 0);
+        Check.dueFault("power a;layer of a thick 1;", 2, 14);
+        Check.dueFault("power a;layer b a thick 1;", 2, 16);
+        Check.dueFault("power a;layer b of a 1;", 2, 21);
+        Check.dueFault("power a;layer b of a thick;", 2, 26);
+        Check.dueFault("power a;layer b of a thick b;", 2, 27);
+        Check.dueFault("power a;layer b of a thick 1 wet;", 2, 32);
+        Check.dueFault("power a;layer b of a thick 1 wet wet;", 2, 33);
+        Check.dueFault("power a;layer b of a thick 1 2;", 2, 29);
+        Check.dueFault("power a;layer b of a wet 1 thick 1;", 2, 21);
+        Check.dueFault("power a;layer b of a thick 1 wet 1 wet 1;", 2, 35);
+        Check.dueFault("damps;", 2, 5);
+        Check.dueFault("damps x;", 2, 6);
+        Check.dueFault("damps 1 1;", 2, 8);
+        Check.dueFault("damps - 1;", 2, 6);
+        Check.dueFault("damp 1;", 2, 0);
+        Check.dueFault("slips;", 2, 5);
+        Check.dueFault("slips", 2, 5);
+        Check.dueFault("slips x;", 2, 6);
+        Check.dueFault("slips 1 +;", 2, 9);
+        Check.dueFault("slips + 1;", 2, 6);
+        Check.dueFault("slips 1 < 2 < 3;", 2, 12);
+        Check.dueFault("slips 1 = not 2;", 2, 10);
+        Check.dueFault("slips 1 + not 2;", 2, 10);
+        Check.dueFault("slips 1 * not 2;", 2, 10);
+        Check.dueFault("slips 1 not 2;", 2, 8);
+        Check.dueFault("slips (1;", 2, 8);
+        Check.dueFault("slips 1);", 2, 7);
+        Check.dueFault("slips ();", 2, 7);
+        Check.dueFault("slips 1 and;", 2, 11);
+        Check.dueFault("slips or 1;", 2, 6);
+        Check.dueFault("slips wet thick;", 2, 10);
+        Check.dueFault("slips pick;", 2, 6);
+        Check.dueTable("slips (1 < 2) < 3;", 0);
+        Check.dueTable("slips (1 < 2) + (not 3) * (1 or 2 and 3);", 0);
+        Check.dueTable("slips not 1 < 2 and not not 3 or not (4 - 5 % 6 / 7);", 0);
         // Two faults: the first by its place.
-        fault("power a;power a $", 3, 14);
-        fault("damps 31 $", 4, 6);
-        fault("damps $ 31", 1, 6);
-        fault("slips 1;slips $", 2, 8);
+        Check.dueFault("power a;power a $", 3, 14);
+        Check.dueFault("damps 31 $", 4, 6);
+        Check.dueFault("damps $ 31", 1, 6);
+        Check.dueFault("slips 1;slips $", 2, 8);
     }
 
     private static String many(String start, String part, int count, String end) {
@@ -293,33 +279,40 @@ public final class TableTests {
     }
 
     private static void units() {
-        good(many("slips 1", "+1", 29, ";"), 0);
-        fault(many("slips 1", "+1", 30, ";"), 2, 66);
-        fault(many("slips 1", "+1", 29, "+(1);"), 2, 66);
-        fault(many("slips 1", "+1", 29, "+;"), 2, 66);
-        fault(many("slips 1", "+1", 29, "+$;"), 1, 66);
+        Check.dueTable(many("slips 1", "+1", 29, ";"), 0);
+        Check.dueFault(many("slips 1", "+1", 30, ";"), 2, 66);
+        Check.dueFault(many("slips 1", "+1", 29, "+(1);"), 2, 66);
+        Check.dueFault(many("slips 1", "+1", 29, "+;"), 2, 66);
+        Check.dueFault(many("slips 1", "+1", 29, "+$;"), 1, 66);
         // A unit ( e ) is one itself.
-        good(many("slips 1", "+1", 27, "+(1);"), 0);
-        fault(many("slips 1", "+1", 28, "+(1);"), 2, 65);
+        Check.dueTable(many("slips 1", "+1", 27, "+(1);"), 0);
+        Check.dueFault(many("slips 1", "+1", 28, "+(1);"), 2, 65);
         SandwichTreaty x = Check.told("slips (wet) and not (1);");
         Check.due("units with ( e )", 4, x.about(12));
-        good(many("slips ", "(", 7, "1") + many("", ")", 7, ";"), 0);
-        fault(many("slips ", "(", 8, "1") + many("", ")", 8, ";"), 2, 13);
-        good(many("slips ", "not ", 7, "1;"), 0);
-        fault(many("slips ", "not ", 8, "1;"), 2, 34);
-        good("slips not not not ((((1))));", 0);
-        fault("slips not not not (((((1)))));", 2, 22);
-        fault("slips ((((((( not 1)))))));", 2, 14);
-        good("slips (((((( not 1))))));", 0);
-        good("slips not not not not not not not 1 and not not not not not not not 1 or (((((((1)))))));", 0);
-        // As many nots as can be: 7 ahead of each of 30.
-        String nots = many("", "not ", 7, "1");
-        SandwichTreaty y = Check.told(many("power a;layer l of a thick 1;slips " + nots, " and " + nots, 29, ";"));
-        Check.due("30 units behind 7 nots each", 30, y.about(12));
-        Check.due("their worth", 0, y.slip(0));
-        SandwichTreaty z = Check.told(many("power a;layer l of a thick 1;slips " + nots.replace("1", "0"),
-            " and " + nots.replace("1", "0"), 29, ";"));
-        Check.due("their worth of 0", 1, z.slip(0));
+        Check.dueTable(many("slips ", "(", 7, "1") + many("", ")", 7, ";"), 0);
+        Check.dueFault(many("slips ", "(", 8, "1") + many("", ")", 8, ";"), 2, 13);
+        Check.dueTable(many("slips ", "not ", 7, "1;"), 0);
+        Check.dueFault(many("slips ", "not ", 8, "1;"), 2, 34);
+        Check.dueTable("slips not not not ((((1))));", 0);
+        Check.dueFault("slips not not not (((((1)))));", 2, 22);
+        Check.dueFault("slips ((((((( not 1)))))));", 2, 14);
+        Check.dueTable("slips (((((( not 1))))));", 0);
+        Check.dueTable("slips not not not not not not not 1 and not not not not not not not 1 or (((((((1)))))));", 0);
+        asManyNotsAsCanBe();
+    }
+
+    private static void asManyNotsAsCanBe() {
+        String one = many("", "not ", 7, "0");
+        String none = many("", "not ", 7, "1");
+        for (int place = 0; place <= 30; place++) {
+            StringBuilder text = new StringBuilder("power a;layer l of a thick 1;slips ");
+            for (int i = 0; i < 30; i++) {
+                text.append(i == 0 ? "" : " and ").append(i == place ? none : one);
+            }
+            SandwichTreaty x = Check.told(text.append(";").toString());
+            Check.due("30 units behind 7 nots each", 30, x.about(12));
+            Check.due("their worth with a 0 at " + place, place < 30 ? 0 : 1, x.slip(0));
+        }
     }
 
     /** Whatever comes behind a faulty token, the fault is the same. */
