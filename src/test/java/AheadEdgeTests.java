@@ -204,6 +204,20 @@ public final class AheadEdgeTests {
         SandwichTreaty y = ofOne("1", 3, 2, 1);
         Check.due("all are SHAKY", 3, y.order());
         Check.dueLies("the first", y, 0, 1, 2);
+        // Of eight just the thickest may not be uppermost, or just not lowest.
+        SandwichTreaty top = ofOne("above=0 and thick=8", 1, 2, 3, 4, 5, 6, 7, 8);
+        Check.due("by what is uppermost", 0, top.order());
+        Check.dueLies("by what is uppermost", top, 0, 1, 2, 3, 4, 5, 7, 6);
+        SandwichTreaty low = ofOne("below=0 and thick=8", 8, 2, 3, 4, 5, 6, 7, 1);
+        Check.due("by what is lowest", 0, low.order());
+        Check.dueLies("by what is lowest", low, 1, 0, 2, 3, 4, 5, 6, 7);
+        // Of eight in two POWERS none may have a foe next to it: two must have.
+        SandwichTreaty foes = of("abababab", EIGHT, "slips foes;");
+        Check.due("the two at the border", 2, foes.order());
+        Check.dueLies("the two at the border", foes, 0, 2, 4, 6, 1, 3, 5, 7);
+        SandwichTreaty mixed = of("aabbccab", EIGHT, "slips foes<2;");
+        Check.due("all but the ends", 2, mixed.order());
+        Check.dueLies("all but the ends", mixed, 0, 2, 1, 3, 4, 6, 5, 7);
         SandwichTreaty one = ofOne("1", 3);
         Check.due("one", 1, one.order());
         Check.dueLies("one", one, 0);

@@ -200,6 +200,11 @@ public final class TableEdgeTests {
         SandwichTreaty x = Check.told(layers(8));
         Check.dueStack("eight", x, 0, 1, 2, 3, 4, 5, 6, 7);
         Check.due("the eighth", 8, x.layer(7, 1));
+        SandwichTreaty y = Check.told(layers(7) + "power b;layer h of b thick 20 wet 20;");
+        int[] eighth = {1, 20, 20, 7, 0, 0, 1};
+        for (int what = 0; what < 7; what++) {
+            Check.due("the eighth, what " + what, eighth[what], y.layer(7, what));
+        }
         Check.due("a ninth", -2, x.layer(8, 1));
     }
 
@@ -247,17 +252,33 @@ public final class TableEdgeTests {
         Check.due("pick untold", 3, Check.told("damps 9;").about(15));
         Check.due("draw untold", 0, Check.told("damps 9;").about(6));
         Check.due("sun 0", 1, Check.told("sun 0;").odds(1, 0));
+        Check.due("sun 0, lower part", 1, Check.told("sun 0;").odds(1, 1));
+        Check.due("sun 1", 99, Check.told("sun 1;").odds(1, 0));
         Check.due("sun untold", 1, Check.told("damps 9;").odds(1, 0));
+        Check.due("sun untold, lower part", 1, Check.told("damps 9;").odds(1, 1));
+        Check.due("sun 99, lower part", 100, Check.told("sun 99;").odds(1, 1));
         Check.due("sun 100", 0, Check.told("sun 100;").odds(1, 0));
         Check.dueFault("sun 101;", 4, 4);
-        SandwichTreaty x = Check.told("damps 9;pick 7;sun 50;draw 77;slips 1;");
+        SandwichTreaty x = Check.told("damps 9;pick 7;sun 30;draw 77;slips 1;");
         Check.tell(x, "power a;layer l of a thick 3;");
         Check.due("damps untold in the next table", 1, x.about(14));
         Check.due("pick untold in the next table", 3, x.about(15));
         Check.due("draw untold in the next table", 0, x.about(6));
         Check.due("sun untold in the next table", 1, x.odds(1, 0));
+        Check.due("sun untold in the next table, lower part", 1, x.odds(1, 1));
         Check.due("slips untold in the next table", -3, x.slip(0));
         Check.due("units untold in the next table", 0, x.about(12));
+        // A shorter formula behind a longer one has nothing of that.
+        Check.tell(x, "power a;layer l of a thick 3;slips not not not thick;");
+        Check.tell(x, "power a;layer l of a thick 3;slips thick;");
+        Check.due("slips told anew", 3, x.slip(0));
+        // Nor has it anything of a table that was refused.
+        Check.tell(x, "power a;layer l of a thick 9 wet 9;slips 1+1;damps 9;pick 9;");
+        Check.tell(x, "power a;layer l of a thick 3;");
+        Check.due("slips untold behind a fault", -3, x.slip(0));
+        Check.due("units untold behind a fault", 0, x.about(12));
+        Check.due("damps untold behind a fault", 1, x.about(14));
+        Check.due("wet untold behind a fault", 0, x.layer(0, 2));
     }
 
     private static void settingsOnce() {
