@@ -234,6 +234,13 @@ public final class AheadEdgeTests {
         // Fewer SHAKY ones are ahead of thickness: 20 slips alone, or two of 1.
         SandwichTreaty z = ofOne("above+thick>21 or thick<3 and below>1", 20, 1, 1);
         Check.due("fewest are ahead of thickest", 1, z.order());
+        // Two have one foe each, whatever the order; the thickest of one POWER may have none, or the inner ones two.
+        SandwichTreaty w = of("aab", new int[] {1, 3, 2}, "slips foes=1;");
+        Check.due("two at the border", 2, w.order());
+        Check.dueLies("the thickest away from it", w, 1, 0, 2);
+        SandwichTreaty v = of("aabb", new int[] {1, 2, 1, 3}, "slips foes=1;");
+        Check.due("two at the ends", 2, v.order());
+        Check.dueLies("the thickest within", v, 0, 3, 1, 2);
     }
 
     private static void orderFirstOfLikeOnes() {
