@@ -1457,6 +1457,9 @@ public final class SandwichTreaty {
             for (int place = 0; place < pile.size; place++) {
                 weighTop(pile, all, set, top);
                 int next = bestNext(all, set, top, foeBelow);
+                if (next == NONE) {
+                    return;
+                }
                 foeBelow = foe(top, next);
                 top = next;
                 set |= 1 << next;
