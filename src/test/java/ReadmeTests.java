@@ -6,6 +6,7 @@ import java.nio.charset.StandardCharsets;
 import java.nio.file.Files;
 import java.nio.file.Path;
 import java.nio.file.Paths;
+import java.nio.file.attribute.PosixFilePermission;
 import java.util.ArrayList;
 import java.util.Comparator;
 import java.util.List;
@@ -87,7 +88,8 @@ public final class ReadmeTests {
         holds("the example prints\n" + printed, printed.equals(texts.get(0)));
         // Not run from here, as it is what runs this test.
         holds("the tests are run by " + commands.get(1), commands.get(1).equals(CI));
-        holds(CI + " can be run", Files.isExecutable(root.resolve(CI.trim())));
+        holds(CI + " can be run", Files.getPosixFilePermissions(root.resolve(CI.trim()))
+            .contains(PosixFilePermission.OWNER_EXECUTE));
         String answers = output(copy, commands.get(2));
         holds("a test by itself prints\n" + answers, answers.matches("TableTests: [0-9]+ answers, 0 wrong\n"));
     }
